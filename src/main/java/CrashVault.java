@@ -39,7 +39,6 @@ public final class CrashVault {
         vault.rounds = rounds;
         vault.serial = 0;
         vault.list.clearAll();
-        opened = true;
         // No slot of an empty disk is good, whatever the password.
         return saveInto(0, power);
     }
@@ -197,6 +196,7 @@ public final class CrashVault {
         return good1 ? 1 : NONE;
     }
 
+    /** Opens the vault if the power suffices, and shuts it if not. */
     private boolean saveInto(int slot, int power) {
         vault.serial++;
         int bytes = form.writeFile(vault);
@@ -297,40 +297,37 @@ public final class CrashVault {
             }
         }
 
-        /** Whether the bytes are a content; if they are not, the list is left empty. */
+        /** Whether the bytes are a content; only then is what the list holds of use. */
         boolean readContent(ByteRow row, int from, int end) {
-            count = 0;
             if (from >= end || row.bytes[from] > MOST_ENTRIES) {
                 return false;
             }
-            int promised = row.bytes[from];
+            count = row.bytes[from];
             int at = from + 1;
-            for (int i = 0; i < promised; i++) {
+            for (int i = 0; i < count; i++) {
                 if (!readEntry(row, at, end, i)) {
                     return false;
                 }
                 at += PLAIN_ENTRY_BYTES + 8 * olds[i];
             }
-            if (at != end) {
-                return false;
-            }
-            count = promised;
-            return true;
+            return at == end;
         }
 
         private boolean readEntry(ByteRow row, int at, int end, int i) {
             if (at + PLAIN_ENTRY_BYTES > end) {
                 return false;
             }
-            names[i] = row.numberAt(at, 8);
-            olds[i] = row.bytes[at + 8];
-            if (names[i] == 0 || i > 0 && names[i] <= names[i - 1]) {
+            long name = row.numberAt(at, 8);
+            int old = row.bytes[at + 8];
+            if (name == 0 || i > 0 && name <= names[i - 1]) {
                 return false;
             }
-            if (olds[i] > MOST_OLD || at + PLAIN_ENTRY_BYTES + 8 * olds[i] > end) {
+            if (old > MOST_OLD || at + PLAIN_ENTRY_BYTES + 8 * old > end) {
                 return false;
             }
-            for (int back = 0; back <= olds[i]; back++) {
+            names[i] = name;
+            olds[i] = old;
+            for (int back = 0; back <= old; back++) {
                 values[i][back] = row.numberAt(at + 9 + 8 * back, 8);
             }
             return true;

@@ -14,6 +14,7 @@ public final class GoodSlotTest {
         roomInTheSlot();
         newestOfTwo();
         newestIsSparedBySave();
+        whatIsOpenedIsSavedAgain();
         Check.end();
     }
 
@@ -192,5 +193,24 @@ public final class GoodSlotTest {
         last.save(1000);
         Check.due("behind the greatest serial slot 1 is written again", 1, () -> last.disk(302));
         Check.due("behind the greatest serial slot 0 is spared", 0xff, () -> last.disk(2));
+    }
+
+    private static void whatIsOpenedIsSavedAgain() {
+        Forge file = new Forge(Forge.contentOf(new long[] {-3, 1, 2}, new long[] {4, 5}));
+        CrashVault v = new CrashVault();
+        file.serial = 10;
+        file.salt = 0x01020304;
+        file.rounds = 6;
+        Forge.plant(v, 0, file.file(PASSWORD));
+        file.serial = 11;
+        file.salt = 0x81828384;
+        file.rounds = 7;
+        Forge.plant(v, 1, file.file(PASSWORD));
+        Check.due("each slot has its own salt and rounds", 11, () -> v.open(PASSWORD));
+        v.save(1000);
+        file.serial = 12;
+        byte[] slot = file.file(PASSWORD);
+        Check.due("salt and rounds of the slot that was opened", Arrays.toString(slot),
+            () -> Arrays.toString(Check.diskBytes(v, 0, slot.length)));
     }
 }

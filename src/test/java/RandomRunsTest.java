@@ -1,8 +1,9 @@
+import java.util.Arrays;
 import java.util.Random;
 
 /** Runs of calls that are drawn with fixed seeds, on the program and on the model. */
 public final class RandomRunsTest {
-    private static final int RUNS = 600;
+    private static final int RUNS = 800;
     private static final int MOST_CALLS = 512;
 
     private final int seed;
@@ -11,6 +12,7 @@ public final class RandomRunsTest {
     private final ModelVault model = new ModelVault();
     private final long[] passwords;
     private final long[] names;
+    private int calls = 0;
     // What was spoilt last, so that it is often mended again.
     private int spoiltAt = 0;
     private int spoiltBits = 0;
@@ -28,7 +30,11 @@ public final class RandomRunsTest {
     public static void main(String[] args) {
         for (int seed = 0; seed < RUNS; seed++) {
             RandomRunsTest run = new RandomRunsTest(seed);
-            for (int call = 0; call < MOST_CALLS; call++) {
+            if (seed % 2 == 1) {
+                run.plantForged(0);
+                run.plantForged(1);
+            }
+            while (run.calls < MOST_CALLS) {
                 run.step();
             }
         }
@@ -36,7 +42,33 @@ public final class RandomRunsTest {
     }
 
     private void due(String call, Check.Call got, Check.Call want) {
-        Check.due("seed " + seed + ": " + call, Check.answer(want), got);
+        calls++;
+        Check.due("seed " + seed + ", call " + calls + ": " + call, Check.answer(want), got);
+    }
+
+    /** A file whose seals are right; its content and header mostly are, too. */
+    private void plantForged(int slot) {
+        long[][] rows = new long[random.nextInt(5)][];
+        for (int i = 0; i < rows.length; i++) {
+            rows[i] = new long[2 + random.nextInt(random.nextInt(12) == 0 ? 4 : 3)];
+            Arrays.fill(rows[i], random.nextInt(4));
+            rows[i][0] = anyName();
+        }
+        if (random.nextInt(8) != 0) {
+            Arrays.sort(rows, (a, b) -> Long.compare(a[0], b[0]));
+        }
+        byte[] content = Forge.contentOf(rows);
+        if (random.nextInt(10) == 0) {
+            content = Arrays.copyOf(content, random.nextInt(content.length + 20));
+        }
+        Forge file = new Forge(content);
+        file.serial = random.nextInt(4) == 0 ? Integer.MAX_VALUE - random.nextInt(2) : random.nextInt(4) - 2;
+        file.salt = random.nextInt();
+        file.rounds = Math.max(0, rounds());
+        byte[] bytes = file.file(password());
+        for (int i = 0; i < bytes.length; i++) {
+            spoilBoth(300 * slot + i, bytes[i]);
+        }
     }
 
     private void step() {
@@ -167,8 +199,10 @@ public final class RandomRunsTest {
             spoiltAt = random.nextInt(640) - 20;
             spoiltBits = random.nextInt();
         }
-        int at = spoiltAt;
-        int bits = spoiltBits;
+        spoilBoth(spoiltAt, spoiltBits);
+    }
+
+    private void spoilBoth(int at, int bits) {
         Check.Call program = () -> {
             vault.spoil(at, bits);
             return "nothing";
