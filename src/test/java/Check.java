@@ -1,4 +1,5 @@
 import java.util.ArrayList;
+import java.util.Arrays;
 import java.util.List;
 
 /** What the tests share: answers as texts, and a count of those that are not as due. */
@@ -10,6 +11,8 @@ final class Check {
 
     private static int wrong = 0;
     private static int asked = 0;
+    // What is looked at, before the name of each call that is not as due.
+    private static String about = "";
 
     private Check() {
     }
@@ -22,28 +25,40 @@ final class Check {
         }
     }
 
-    static void due(String what, Object want, Call call) {
+    static boolean due(String what, Object want, Call call) {
         String got = answer(call);
+        boolean right = got.equals(String.valueOf(want));
         asked++;
-        if (!got.equals(String.valueOf(want))) {
+        if (!right) {
             wrong++;
-            System.out.println(what + " answered " + got + ", due is " + want);
+            System.out.println(about + what + " answered " + got + ", due is " + want);
         }
+        return right;
     }
 
     /** For calls that answer nothing. */
-    static void dueVoid(String what, String want, Runnable call) {
-        due(what, want, () -> {
+    static boolean dueVoid(String what, String want, Runnable call) {
+        return due(what, want, () -> {
             call.run();
             return "nothing";
         });
     }
 
-    /** The call throws this, and nothing that can be seen of the vault changes. */
-    static void dueThrows(String what, String exception, CrashVault v, Call call) {
-        String before = seen(v);
-        due(what, "throws." + exception, call);
-        due(what + " leaves all as it was", before, () -> seen(v));
+    /** After the scene the call throws this, and all is as if it had not been made. */
+    static void dueRefused(String what, String exception, Scene scene, Scene call) {
+        CrashVault refused = scene.played();
+        if (dueVoid(what, "throws." + exception, () -> call.play(refused))) {
+            Scene withCall = scene.then(v -> answer(() -> {
+                call.play(v);
+                return "nothing";
+            }));
+            due(what + " leaves all as it was", scene.whole(), withCall::whole);
+        }
+    }
+
+    /** The slot holds these bytes, and 0 behind them. */
+    static void dueSlot(String what, byte[] bytes, Scene scene, int slot) {
+        due(what, Arrays.toString(Arrays.copyOf(bytes, 300)), () -> Arrays.toString(scene.slot(slot)));
     }
 
     /** What can be seen of the vault, but for the disk. */
@@ -81,6 +96,14 @@ final class Check {
             bytes[i] = (byte) v.disk(from + i);
         }
         return bytes;
+    }
+
+    static void about(String what) {
+        about = what + ": ";
+    }
+
+    static int wrong() {
+        return wrong;
     }
 
     static void end() {
