@@ -16,6 +16,7 @@ import java.util.regex.Pattern;
 /** The document's face, and those rules of LANGUAGE.md that can be seen from outside or in the text. */
 public final class LanguageTest {
     private static final Path SOURCE = Path.of("src/main/java/CrashVault.java");
+    private static final Path DOCUMENT = Path.of("../shared/DOC.md");
     private static final String[] FACE = {
         "public boolean CrashVault.make(long,int,int,int) throws IllegalArgumentException",
         "public int CrashVault.open(long) throws NoSuchElementException",
@@ -42,6 +43,11 @@ public final class LanguageTest {
 
     public static void main(String[] args) throws IOException {
         face();
+        if (Files.exists(DOCUMENT)) {
+            documentedFace(Files.readString(DOCUMENT));
+        } else {
+            System.out.println("no document at " + DOCUMENT + ": its face is not looked at");
+        }
         members();
         String source = Files.readString(SOURCE);
         words(source);
@@ -63,6 +69,22 @@ public final class LanguageTest {
         }
         Check.due("the constructors", "[public CrashVault()]", () -> constructors);
         Check.due("the class", "public final", () -> Modifier.toString(CrashVault.class.getModifiers()));
+    }
+
+    /** The document's own lines, written as FACE is: without the names of the parameters. */
+    private static void documentedFace(String document) {
+        String face = document.replaceFirst("(?s).*```java\n(.*?)```.*", "$1");
+        TreeSet<String> methods = new TreeSet<>();
+        Matcher line = Pattern.compile("(?m)^ +public (\\w+) (\\w+)\\((.*?)\\)(.*);$").matcher(face);
+        while (line.find()) {
+            String types = line.group(3).replaceAll(" \\w+(, )?", "$1").replace(", ", ",");
+            methods.add("public " + line.group(1) + " CrashVault." + line.group(2) + "(" + types + ")"
+                + line.group(4).replace(", ", ","));
+        }
+        Check.due("the methods that the document writes", new TreeSet<>(Arrays.asList(FACE)), () -> methods);
+        Check.due("the lines of the document's face", FACE.length + 3L, () -> face.lines().count());
+        Check.due("the document's class", true, () -> face.startsWith("public final class CrashVault {\n"));
+        Check.due("the document's constructor", true, () -> face.contains(" public CrashVault();\n"));
     }
 
     private static void members() {

@@ -18,8 +18,36 @@ final class Mutants {
     }
 
     static List<Mutant> all() {
-        return Stream.of(ofFiles(), ofGoodSlots(), ofSaves(), ofThrows(), ofMakeAndOpen(), ofLengthToSerial(),
+        return Stream.of(ofWhatItIs(), ofFiles(), ofGoodSlots(), ofSaves(), ofThrows(), ofMakeAndOpen(), ofLengthToSerial(),
             ofEntries(), ofLooks(), ofTheDisk()).flatMap(List::stream).toList();
+    }
+
+    private static List<Mutant> ofWhatItIs() {
+        String slot = "newestGood(savedPassword) == 0 ? 1 : 0";
+        String fileSeal = "|| row.numberAt(end, SEAL_BYTES) != cipher.seal(row, end, FILE_USE)";
+        return List.of(
+            of("what it is: kept under a password", "key[0] = (int) password; key[1] = (int) (password >>> 32);", ""),
+            of("what it is: kept under a password", "list.copyFrom(other.list);", "list.clearAll();"),
+            of("what it is: kept under a password", "olds[to] = other.olds[from];", "olds[to] = 0;"),
+            of("what it is: kept under a password", "return saveInto(" + slot + ", power);",
+                "diskBytes[newestGood(savedPassword) * SLOT_BYTES] = 0; return saveInto(" + slot + ", power);"),
+            of("what it is: power fails", slot, "newestGood(savedPassword) == 0 ? 0 : 1"),
+            of("what it is: power fails", slot, "0"),
+            of("what it is: power fails", slot, "1"),
+            of("what it is: power fails", "opened = power >= bytes;", "opened = power >= bytes - 8;"),
+            of("what it is: power fails while renewed", "newestGood(savedPassword)", "newestGood(vault.password)"),
+            of("what it is: power fails while renewed", "requireRounds(rounds); vault.password = password; "
+                + "vault.rounds = rounds; }", "requireRounds(rounds); vault.password = password; savedPassword = "
+                + "password; vault.rounds = rounds; }"),
+            of("what it is: power fails again", slot, "diskBytes[2] > diskBytes[302] ? 1 : 0"),
+            of("what it is: power fails again", "vault.copyFrom(newest == 0 ? found0 : found1);",
+                "vault.serial = (newest == 0 ? found0 : found1).serial;"),
+            of("what it is: any bit changed", fileSeal, ""),
+            of("what it is: any bit changed", "4 * i < size;", "4 * i + 3 < size;"),
+            of("what it is: any bit changed", "row.numberAt(end, SEAL_BYTES) != cipher.seal(row, end, FILE_USE)",
+                "(int) row.numberAt(end, 4) != (int) cipher.seal(row, end, FILE_USE)"),
+            of("what it is: many bytes changed", fileSeal, ""),
+            of("what it is: many bytes changed", "if (newest == NONE) {", "if (newest == NONE && !opened) {"));
     }
 
     private static List<Mutant> ofFiles() {

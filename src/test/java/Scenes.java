@@ -1,3 +1,7 @@
+import java.util.ArrayList;
+import java.util.Arrays;
+import java.util.List;
+
 /** Scenes that many tests begin with. */
 final class Scenes {
     static final long PASSWORD = 0x123456789abcdef0L;
@@ -58,6 +62,17 @@ final class Scenes {
 
     static byte[] fileBytes(int serial, long[]... rows) {
         return file(serial, rows).file(PASSWORD);
+    }
+
+    /** What Check sees of such a vault while it is open. */
+    static String seen(int serial, long[]... rows) {
+        List<Object> all = new ArrayList<>();
+        all.add(serial);
+        all.add(29 + Forge.contentOf(rows).length);
+        for (long[] row : rows) {
+            all.add(row[0] + "=" + Arrays.toString(Arrays.copyOfRange(row, 1, row.length)));
+        }
+        return all.toString();
     }
 
     static Scene planted(int slot, byte[] file) {

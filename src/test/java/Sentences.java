@@ -8,6 +8,7 @@ final class Sentences {
 
     static List<Sentence> all() {
         List<Sentence> all = new ArrayList<>();
+        all.addAll(CrashSentences.all());
         all.addAll(FileSentences.all());
         all.addAll(GoodSentences.all());
         all.addAll(SaveSentences.all());

@@ -7,7 +7,7 @@ import java.util.Set;
 import java.util.regex.Matcher;
 import java.util.regex.Pattern;
 
-/** Each sentence of the document by a test of its own; and no sentence of the terms and promises is left out. */
+/** Each sentence of the document by a test of its own; and none of them is left out. */
 public final class SentencesTest {
     private static final Path DOCUMENT = Path.of("../shared/DOC.md");
 
@@ -35,16 +35,16 @@ public final class SentencesTest {
             Check.due("has the words of " + sentence.name(), true,
                 () -> oneLine(document).contains(sentence.words()));
         }
-        Check.due("parts", 18, () -> partsHeldAgainst(document, sentences));
+        Check.due("parts", 19, () -> partsHeldAgainst(document, sentences));
     }
 
     private static String oneLine(String text) {
         return text.replaceAll("\\s+", " ");
     }
 
-    /** The terms and each promise, held against the sentences: how many parts there are. */
+    /** What it is, the terms and each promise, held against the sentences: how many parts there are. */
     private static int partsHeldAgainst(String document, List<Sentence> sentences) {
-        Matcher heading = Pattern.compile("(?m)^## (Terms|Promise \\d+).*\n((?:(?!^## ).*\n)*)").matcher(document);
+        Matcher heading = Pattern.compile("(?m)^## (What it is|Terms|Promise \\d+).*\n((?:(?!^## ).*\n)*)").matcher(document);
         int parts = 0;
         while (heading.find()) {
             parts++;
